@@ -107,7 +107,7 @@ public final class SnowSites {
 
     public int hour(boolean cloudy) {
         saved.push(now);
-        return now.passHour(cloudy);
+        return now.passHours(1, cloudy);
     }
 
     public int ballot(int first, int second, int third) throws IllegalArgumentException, IllegalStateException {
@@ -496,10 +496,10 @@ public final class SnowSites {
                 now.stacks.walls[numbers[0]] = 1;
                 break;
             case SUN:
-                passHours(numbers[0], false);
+                now.passHours(numbers[0], false);
                 break;
             case CLOUD:
-                passHours(numbers[0], true);
+                now.passHours(numbers[0], true);
                 break;
             default:
                 now.putOffcutsBack();
@@ -528,12 +528,6 @@ public final class SnowSites {
                 return hoursRefusal(numbers[0]);
             default:
                 return ALLOWED;
-        }
-    }
-
-    private void passHours(int hours, boolean cloudy) {
-        for (int i = 0; i < hours; i++) {
-            now.passHour(cloudy);
         }
     }
 
@@ -649,13 +643,17 @@ public final class SnowSites {
             return units;
         }
 
-        int passHour(boolean cloudy) {
-            int units = cloudy ? 0 : stacks.melt(hourOfDay);
-            tools.restoreMinutes();
-            hourOfDay++;
-            if (hourOfDay >= HOURS_OF_DAY) {
-                hourOfDay = 0;
-                day++;
+        /** The units that melt. */
+        int passHours(int hours, boolean cloudy) {
+            int units = 0;
+            for (int i = 0; i < hours; i++) {
+                units += cloudy ? 0 : stacks.melt(hourOfDay);
+                tools.restoreMinutes();
+                hourOfDay++;
+                if (hourOfDay >= HOURS_OF_DAY) {
+                    hourOfDay = 0;
+                    day++;
+                }
             }
             return units;
         }
@@ -682,7 +680,12 @@ public final class SnowSites {
         }
 
         boolean hasBlock(int site, int level) {
-            return isSite(site) && level >= 0 && level < heights[site];
+            return level >= 0 && level < heightAt(site);
+        }
+
+        /** The blocks on a site; 0 also beyond the first and the last one, where nothing shades. */
+        private int heightAt(int site) {
+            return site >= 0 && site < SITES ? heights[site] : 0;
         }
 
         void add(int site, int kind) {
@@ -705,21 +708,17 @@ public final class SnowSites {
         /** Lets one hour of sun pass; the units that melt. */
         int melt(int hour) {
             for (int site = 0; site < SITES; site++) {
-                noteLosses(site, hour);
+                for (int level = 0; level < heights[site]; level++) {
+                    int place = placeOf(site, level);
+                    int wanted = rateOf(kinds[place]) * facesInSun(site, level, hour);
+                    losses[place] = Math.min(wanted, volumes[place]);
+                }
             }
             int units = 0;
             for (int site = 0; site < SITES; site++) {
                 units += takeLosses(site);
             }
             return units;
-        }
-
-        private void noteLosses(int site, int hour) {
-            for (int level = 0; level < heights[site]; level++) {
-                int place = placeOf(site, level);
-                int wanted = rateOf(kinds[place]) * facesInSun(site, level, hour);
-                losses[place] = Math.min(wanted, volumes[place]);
-            }
         }
 
         private int takeLosses(int site) {
@@ -749,19 +748,17 @@ public final class SnowSites {
         }
 
         int facesInSun(int site, int level, int hour) {
-            int side = isSideInSun(site, level, hour) ? 1 : 0;
+            boolean shaded;
+            if (hour < FIRST_HOUR_IN_SOUTH) {
+                shaded = level < heightAt(site + 1);
+            } else if (hour < FIRST_HOUR_IN_WEST) {
+                shaded = walls[site] == 1;
+            } else {
+                shaded = level < heightAt(site - 1);
+            }
+            int side = shaded ? 0 : 1;
             int top = level == heights[site] - 1 ? 1 : 0;
             return side + top;
-        }
-
-        private boolean isSideInSun(int site, int level, int hour) {
-            if (hour < FIRST_HOUR_IN_SOUTH) {
-                return !hasBlock(site + 1, level);
-            }
-            if (hour < FIRST_HOUR_IN_WEST) {
-                return walls[site] == 0;
-            }
-            return !hasBlock(site - 1, level);
         }
 
         private static int rateOf(int kind) {
@@ -816,7 +813,6 @@ public final class SnowSites {
         void add(int speed) {
             speeds[size] = speed;
             minutesLeft[size] = MINUTES_OF_HOUR;
-            // An undone tool may have left its minutes behind in this place.
             minutesUsed[size] = 0;
             size++;
         }

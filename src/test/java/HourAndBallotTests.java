@@ -8,11 +8,13 @@ public final class HourAndBallotTests {
         promise9CloudsAndTools();
         promise9NotMoreThanItsVolume();
         promise9ByTheStacksBefore();
+        promise9FiveTools();
         promise9Undo();
         promise10Ballot();
         promise11ClearBallots();
         promise16And18Rounds();
         promise16To18NoVotes();
+        promise16To18AfterTheLastSculpture();
         promise17Votes();
         promise17Ties();
         promise17ExactlyHalf();
@@ -93,6 +95,19 @@ public final class HourAndBallotTests {
         Checks.is("blocks", middle.site(5, 0), 2);
         Checks.is("the ice came down", middle.block(5, 1, 0), 2);
         Checks.is("its volume", middle.block(5, 1, 1), 96);
+    }
+
+    private static void promise9FiveTools() {
+        SnowSites place = Checks.placeWith(new int[] {4, 2}, new int[] {5, 2});
+        for (int tool = 0; tool < 5; tool++) {
+            place.addTool(10);
+            place.carve(tool, 4, 0, 10 + tool);
+        }
+        place.hour(false);
+        for (int tool = 0; tool < 5; tool++) {
+            Checks.is("minutes of tool " + tool, place.tool(tool, 1), 60);
+            Checks.is("used by tool " + tool, place.tool(tool, 2), tool == 0 ? 1 : 2);
+        }
     }
 
     private static void promise9Undo() {
@@ -186,6 +201,20 @@ public final class HourAndBallotTests {
                 Checks.is("it does not stand in the next", full.votes(round + 1, 7 - round), SnowSites.NONE);
             }
         }
+    }
+
+    private static void promise16To18AfterTheLastSculpture() {
+        SnowSites place = Checks.placeWith(new int[] {0, 0});
+        place.ballot(0, -1, -1);
+        place.addTool(20);
+        Checks.is("rounds", place.rounds(), 1);
+        Checks.is("winner", place.winner(), 0);
+        place.carve(0, 0, 0, 100);
+        Checks.is("no winner then", place.winner(), SnowSites.NONE);
+        Checks.is("no rounds then", place.rounds(), 0);
+        Checks.is("no votes then", place.votes(0, 0), SnowSites.NONE);
+        place.undo();
+        Checks.is("winner after undo", place.winner(), 0);
     }
 
     private static void promise17Votes() {

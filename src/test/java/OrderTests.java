@@ -14,9 +14,12 @@ public final class OrderTests {
         promise26StopsAtARefusal();
         promise26HoursOfOrders();
         promise26FullTexts();
+        promise26OrdersOneByOne();
+        promise26AfterAFault();
         promise27Undo();
         promise27OrderTextStays();
         promise27WholeState();
+        promise27ReplacedBallot();
         promise28Digest();
         promise28DigestByItsValues();
         Checks.finish();
@@ -112,6 +115,14 @@ public final class OrderTests {
         fault("snow 5;\u007f", 7);
         fault("snow\t5;", 4);
         fault("tools 5;", 0);
+        fault("xnow 5;", 0);
+        fault("sun 5 ; tun 5;", 8);
+        // The first of several faults counts.
+        fault("sno 5; q;", 0);
+        fault("press 1; q;", 7);
+        fault("press; q;", 5);
+        fault("snow 5 6; q;", 7);
+        fault("snow 5 press 6 7; q;", 7);
         fault("s", 0);
         fault("z".repeat(150), 0);
         fault("snow 5;" + " ".repeat(142) + "s", 149);
@@ -173,6 +184,8 @@ public final class OrderTests {
         stops("snow 500;press 0 51;snow 6;", 1, 500);
         stops("snow 500;press 0 6;snow 6;", 1, 500);
         stops("snow 500;stack 8 0;snow 6;", 1, 500);
+        stops("snow 500;press 0 1;stack 8 0;snow 6;", 2, 400);
+        stops("snow 800;press 2 7;stack 7 2;stack 7 2;stack 7 2;stack 7 2;stack 7 2;stack 7 2;stack 7 2;snow 6;", 8, 100);
         stops("snow 500;stack 0 3;snow 6;", 1, 500);
         stops("snow 500;stack 0 0;snow 6;", 1, 500);
         stops("snow 500;tool 0;snow 6;", 1, 500);
@@ -212,6 +225,59 @@ public final class OrderTests {
         Checks.is("hour", place.whole(12), 1);
         Checks.is("21 long ones", Checks.run(place, "sun 24;".repeat(21) + "   "), 21);
         Checks.is("day", place.whole(13), 2 + 42);
+    }
+
+    /** Each order does what its call does, and nothing else: a twin that is called has the same digest then. */
+    private static void promise26OrdersOneByOne() {
+        twins("snow 9;", p -> p.addSnow(9));
+        twins("press 0 2;", p -> p.press(0, 2));
+        twins("press 2 1;", p -> p.press(2, 1));
+        twins("stack 0 1;", p -> p.stack(0, 1));
+        twins("stack 1 0;", p -> p.stack(1, 0));
+        twins("stack 7 2;", p -> p.stack(7, 2));
+        twins("tool 6;", p -> p.addTool(6));
+        twins("carve 0 3 2 9;", p -> p.carve(0, 3, 2, 9));
+        twins("carve 1 2 0 21;", p -> p.carve(1, 2, 0, 21));
+        twins("wall 0;", p -> p.setWall(0, true));
+        twins("wall 1;", p -> p.setWall(1, true));
+        twins("wall 7;", p -> p.setWall(7, true));
+        twins("sun 1;", p -> p.hour(false));
+        twins("cloud 1;", p -> p.hour(true));
+        twins("again;", p -> p.recycle());
+    }
+
+    private interface Step {
+        int take(SnowSites place);
+    }
+
+    private static void twins(String order, Step step) {
+        SnowSites told = twin();
+        SnowSites called = twin();
+        Checks.is(order, Checks.run(told, order), 1);
+        step.take(called);
+        told.clearOrders();
+        Checks.is("digest after " + order, told.digest(), called.digest());
+    }
+
+    /** With offcuts, used minutes and room for everything, so that no order is without an effect. */
+    private static SnowSites twin() {
+        SnowSites place = Checks.placeWith(new int[] {2, 0, 1}, new int[] {3, 2, 1, 0});
+        place.addSnow(2000);
+        place.addTool(5);
+        place.addTool(9);
+        place.carve(0, 2, 1, 30);
+        place.hour(false);
+        place.carve(1, 3, 1, 30);
+        return place;
+    }
+
+    private static void promise26AfterAFault() {
+        SnowSites place = new SnowSites();
+        Checks.is("a fault", Checks.run(place, "snow 5;x"), -17);
+        Checks.is("no fault then", Checks.run(place, "snow 5;"), 1);
+        Checks.is("the same fault", Checks.run(place, "snow 5;x"), -17);
+        Checks.is("an empty text then", Checks.run(place, ""), 0);
+        Checks.is("snow", place.whole(0), 5);
     }
 
     private static void promise27Undo() {
@@ -280,6 +346,19 @@ public final class OrderTests {
         Checks.is("a new tool is unused", place.addTool(7), 2);
         Checks.is("its used minutes", place.tool(2, 2), 0);
         Checks.is("its minutes", place.tool(2, 1), 60);
+    }
+
+    /** A ballot that was cleared comes back by undo, also where another one took its place. */
+    private static void promise27ReplacedBallot() {
+        SnowSites place = Checks.placeWith(new int[] {1, 0}, new int[] {5, 0});
+        place.ballot(5, -1, -1);
+        place.clearBallots();
+        place.ballot(1, -1, -1);
+        Checks.is("the new one", place.winner(), 1);
+        place.undo();
+        place.undo();
+        Checks.is("the old one", place.winner(), 5);
+        Checks.is("its votes", place.votes(0, 5), 1);
     }
 
     private static void promise28Digest() {

@@ -2,8 +2,8 @@ import java.lang.management.ManagementFactory;
 
 /** All calls of a run live in one room: what the calls themselves make has to stay next to nothing. */
 public final class RoomTests {
-    private static final int ROUNDS = 200;
-    private static final long MOST_BYTES = 20_000;
+    private static final int ROUNDS = 25;
+    private static final long MOST_BYTES = 4_000;
 
     private RoomTests() {
     }

@@ -104,6 +104,9 @@ public final class ValueTests {
         for (int what = 0; what < 16; what++) {
             Checks.is("whole " + what, place.whole(what), due[what]);
         }
+        SnowSites ends = Checks.placeWith(new int[] {0, 2}, new int[] {7, 0, 1});
+        Checks.is("sculptures on the first and the last site", ends.whole(5), 2);
+        Checks.is("their volumes", ends.whole(6), 300);
         Checks.badArgument("what -1", place, () -> place.whole(-1));
         Checks.badArgument("what 16", place, () -> place.whole(16));
         Checks.badArgument("what most", place, () -> place.whole(Integer.MAX_VALUE));

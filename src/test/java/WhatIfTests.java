@@ -11,6 +11,7 @@ public final class WhatIfTests {
         promise21LongLived();
         promise22BestWall();
         promise22Ties();
+        promise22OneUnit();
         promise23MinutesFor();
         nothingIsChanged();
         Checks.finish();
@@ -73,6 +74,17 @@ public final class WhatIfTests {
         Checks.is("a lone loose block", place.goneIn(2), 9);
         place.hour(true);
         Checks.is("the same an hour later", place.goneIn(2), 9);
+        place.setWall(2, true);
+        // From the hour 1 on: three hours of 12 units, four of 6 and four of 12 would leave none.
+        Checks.is("behind a wall", place.goneIn(2), 11);
+        place.hour(true);
+        Checks.is("behind a wall, from the hour 2 on", place.goneIn(2), 11);
+        place.hour(true);
+        place.hour(true);
+        Checks.is("behind a wall, from the hour 4 on", place.goneIn(2), 11);
+        place.hour(true);
+        Checks.is("behind a wall, from the hour 5 on", place.goneIn(2), 10);
+        place.setWall(2, false);
         int due = place.goneIn(5);
         for (int hours = 1; hours < due; hours++) {
             place.hour(false);
@@ -138,6 +150,16 @@ public final class WhatIfTests {
             place.hour(true);
         }
         Checks.is("in the hour 8", place.bestWall(), 4);
+    }
+
+    /** 41 units of ice would be gone in the twelve hours, and 40 of them would melt behind a wall. */
+    private static void promise22OneUnit() {
+        SnowSites place = Checks.placeWith(new int[] {0, 2});
+        place.addTool(20);
+        place.carve(0, 0, 0, 59);
+        Checks.is("one unit is saved", place.bestWall(), 0);
+        place.carve(0, 0, 0, 1);
+        Checks.is("none is saved", place.bestWall(), SnowSites.NONE);
     }
 
     private static void promise23MinutesFor() {
