@@ -6,25 +6,31 @@ final class Checks {
 
     private static int passed = 0;
     private static int failed = 0;
+    private static int sentences = 0;
+    private static String sentence = "";
 
     private Checks() {
     }
 
+    /** The sentence of the document that the answers from here on are due to; a wrong one is printed with it. */
+    static void sentence(String words) {
+        sentence = words;
+        sentences++;
+    }
+
     static void is(String what, long got, long want) {
-        if (got == want) {
-            passed++;
-        } else {
-            failed++;
-            System.out.println(what + " answered " + got + ", due is " + want);
-        }
+        is(what, String.valueOf(got), String.valueOf(want));
     }
 
     static void is(String what, String got, String want) {
         if (got.equals(want)) {
             passed++;
-        } else {
-            failed++;
-            System.out.println(what + " answered " + got + ", due is " + want);
+            return;
+        }
+        failed++;
+        System.out.println(what + " answered " + got + ", due is " + want);
+        if (!sentence.isEmpty()) {
+            System.out.println("    by: " + sentence);
         }
     }
 
@@ -81,7 +87,8 @@ final class Checks {
     }
 
     static void finish() {
-        System.out.println(passed + " answers were as due, " + failed + " were not");
+        String ofSentences = sentences > 0 ? " for " + sentences + " sentences" : "";
+        System.out.println(passed + " answers were as due" + ofSentences + ", " + failed + " were not");
         if (failed > 0) {
             System.exit(1);
         }
