@@ -4,7 +4,7 @@ import java.lang.reflect.Method;
 /** Long runs of calls, the same each time: SnowSites and Model have to answer alike. */
 public final class ModelTests {
     private static final int RUNS = 1500;
-    private static final int CALLS = 510;
+    private static final int CALLS = 512;
     private static final int MOST_PRINTED = 20;
     private static final String[] CHANGES = {"addSnow", "press", "stack", "stack", "stack", "stack", "setWall", "addTool",
         "carve", "carve", "carve", "recycle", "hour", "hour", "ballot", "ballot", "clearBallots", "undo", "runOrders",

@@ -21,6 +21,7 @@ public final class QuestionBoundsTests {
         promise20GoneBefore();
         promise21OneHour();
         promise21The200thHour();
+        promise21FromEachHour();
         promise21None();
         promise22NoneWouldSave();
         promise22OneUnit();
@@ -264,6 +265,23 @@ public final class QuestionBoundsTests {
         Checks.is("one hour", later.goneIn(2), 1);
         later.hour(false);
         Checks.is("gone", later.site(2, 0), 0);
+    }
+
+    private static void promise21FromEachHour() {
+        Checks.sentence("Promise 21: after how many hours without clouds (from each hour on, over the wrap)");
+        for (int hour = 0; hour < 12; hour++) {
+            SnowSites place = Places.atHour(hour, new int[] {1, 0, 1}, new int[] {2, 1}, new int[] {4, 2});
+            place.setWall(1, true);
+            place.setWall(4, true);
+            int[] due = {0, place.goneIn(1), place.goneIn(2), 0, place.goneIn(4)};
+            for (int passed = 0; passed < 60; passed++) {
+                for (int site : new int[] {1, 2, 4}) {
+                    Checks.is("site " + site + ", " + passed + " hours behind hour " + hour, place.site(site, 0) > 0 ? 1 : 0,
+                        passed < due[site] ? 1 : 0);
+                }
+                place.hour(false);
+            }
+        }
     }
 
     private static void promise21None() {

@@ -26,6 +26,8 @@ public final class TermsOfTextTests {
         spacesElsewhere();
         textThatEndsTooSoon();
         firstFaultOfSeveral();
+        faultOfThisTextAlone();
+        eachWordDoesItsCall();
         outOfRangeIsNoFault();
         faultAtTheLastByte();
         withAFaultNothingIsDone();
@@ -149,7 +151,9 @@ public final class TermsOfTextTests {
         for (String word : WORDS) {
             String shorter = word.substring(0, word.length() - 1);
             String turned = word.substring(1) + word.charAt(0);
-            for (String wrong : new String[] {shorter, word.substring(1), turned, word + word, word + "s", "a" + word}) {
+            String[] others = {shorter, word.substring(1), turned, word + word, word + "s", "a" + word, "x" + word.substring(1),
+                shorter + "x"};
+            for (String wrong : others) {
                 fault(wrong + " 1;", 0);
                 fault("again; " + wrong + ";", 7);
             }
@@ -252,6 +256,55 @@ public final class TermsOfTextTests {
         fault("again again;", 6);
         fault("again;5", 6);
         fault("again;,", 6);
+        // Where an order would fit in at the fault, the text is not read on from there.
+        fault("snow again; q;", 5);
+        fault("press 1 again; q;", 8);
+        fault("snow 5 again; q;", 7);
+        fault("again again; q;", 6);
+        fault("q again; w;", 0);
+    }
+
+    private static void faultOfThisTextAlone() {
+        Checks.sentence("To run an order text means: if it has a fault, nothing is done; otherwise the orders are carried out");
+        SnowSites place = new SnowSites();
+        Checks.is("a fault", Checks.run(place, "snow 5;x"), -17);
+        Checks.is("the same again", place.runOrders(), -17);
+        Checks.is("a text without one", Checks.run(place, "snow 5;"), 1);
+        Checks.is("a fault that goes away with the next byte", Checks.run(place, "snow 5"), -16);
+        place.type(';');
+        Checks.is("then it runs", place.runOrders(), 1);
+        Checks.is("an empty text", Checks.run(place, ""), 0);
+        Checks.is("snow", place.whole(0), 10);
+    }
+
+    /** A twin that is called tells the same as the place that was told the order. */
+    private static void does(String order, Twins.Call call) {
+        SnowSites told = retyped(order);
+        SnowSites called = retyped(order);
+        Checks.is(order, told.runOrders(), 1);
+        call.on(called);
+        Twins.same(order, told, called);
+    }
+
+    private static void eachWordDoesItsCall() {
+        Checks.sentence("The words are: snow n (addSnow(n)), press k n (press(k, n)), stack s k (stack(s, k)), tool v (addTool(v)), "
+            + "carve t s l n (carve(t, s, l, n)), wall s (setWall(s, true)), sun n, cloud n, again (recycle()).");
+        does("snow 9;", p -> p.addSnow(9));
+        does("press 0 2;", p -> p.press(0, 2));
+        does("press 2 1;", p -> p.press(2, 1));
+        does("stack 0 1;", p -> p.stack(0, 1));
+        does("stack 1 0;", p -> p.stack(1, 0));
+        does("stack 6 2;", p -> p.stack(6, 2));
+        does("tool 6;", p -> p.addTool(6));
+        does("carve 0 3 2 9;", p -> p.carve(0, 3, 2, 9));
+        does("carve 1 2 0 21;", p -> p.carve(1, 2, 0, 21));
+        does("carve 1 7 0 92;", p -> p.carve(1, 7, 0, 92));
+        does("wall 0;", p -> p.setWall(0, true));
+        does("wall 3;", p -> p.setWall(3, true));
+        does("wall 7;", p -> p.setWall(7, true));
+        does("sun 1;", p -> p.hour(false));
+        does("cloud 1;", p -> p.hour(true));
+        does("again;", SnowSites::recycle);
     }
 
     private static void outOfRangeIsNoFault() {

@@ -176,7 +176,15 @@ public final class TermsOfUndoTests {
         part("ballots", p -> p.ballot(1, 2, 3), p -> p.whole(14));
         part("votes", SnowSites::clearBallots, p -> p.votes(0, 3));
         part("all that a run did", SnowSites::runOrders, p -> p.whole(0));
+        part("replaced ballots", p -> replaceBallots(p), p -> p.votes(0, 3));
         part("days", p -> Checks.run(p, "cloud 24;"), p -> p.whole(13));
+    }
+
+    /** As one undoable call: the state behind the clearing is undone at once. */
+    private static long replaceBallots(SnowSites place) {
+        place.clearBallots();
+        place.ballot(7, -1, -1);
+        return place.undo();
     }
 
     private static void part(String what, Twins.Call change, Twins.Call look) {
