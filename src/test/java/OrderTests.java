@@ -227,7 +227,7 @@ public final class OrderTests {
         Checks.is("day", place.whole(13), 2 + 42);
     }
 
-    /** Each order does what its call does, and nothing else: a twin that is called has the same digest then. */
+    /** Each order does what its call does, and nothing else: a twin that is called tells the same then. */
     private static void promise26OrdersOneByOne() {
         twins("snow 9;", p -> p.addSnow(9));
         twins("press 0 2;", p -> p.press(0, 2));
@@ -246,17 +246,13 @@ public final class OrderTests {
         twins("again;", p -> p.recycle());
     }
 
-    private interface Step {
-        int take(SnowSites place);
-    }
-
-    private static void twins(String order, Step step) {
+    private static void twins(String order, Twins.Call call) {
         SnowSites told = twin();
         SnowSites called = twin();
+        Checks.typeAll(called, order);
         Checks.is(order, Checks.run(told, order), 1);
-        step.take(called);
-        told.clearOrders();
-        Checks.is("digest after " + order, told.digest(), called.digest());
+        call.on(called);
+        Twins.same(order, told, called);
     }
 
     /** With offcuts, used minutes and room for everything, so that no order is without an effect. */

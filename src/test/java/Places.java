@@ -111,6 +111,22 @@ final class Places {
         return place;
     }
 
+    /** Six blocks of ice and a wall on each site. */
+    static SnowSites iceBehindWalls() {
+        SnowSites place = new SnowSites();
+        for (int i = 0; i < 4; i++) {
+            place.addSnow(1200);
+            place.press(2, 12);
+        }
+        for (int site = 0; site < 8; site++) {
+            place.setWall(site, true);
+            for (int level = 0; level < 6; level++) {
+                place.stack(site, 2);
+            }
+        }
+        return place;
+    }
+
     private static void fillStock(SnowSites place, int kind) {
         int blocks = 50 - place.whole(1 + kind);
         if (blocks > 0) {

@@ -232,17 +232,7 @@ public final class QuestionBoundsTests {
 
     /** Ice behind walls on all sites: what the site 2 has left decides about its last hour. */
     private static SnowSites longLived(int volume) {
-        SnowSites place = new SnowSites();
-        for (int i = 0; i < 4; i++) {
-            place.addSnow(1200);
-            place.press(2, 12);
-        }
-        for (int site = 0; site < 8; site++) {
-            place.setWall(site, true);
-            for (int level = 0; level < 6; level++) {
-                place.stack(site, 2);
-            }
-        }
+        SnowSites place = Places.iceBehindWalls();
         place.addTool(20);
         place.carve(0, 2, 5, 100);
         Places.carveTo(place, 2, 4, volume);

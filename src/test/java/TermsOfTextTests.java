@@ -27,7 +27,6 @@ public final class TermsOfTextTests {
         textThatEndsTooSoon();
         firstFaultOfSeveral();
         faultOfThisTextAlone();
-        eachWordDoesItsCall();
         outOfRangeIsNoFault();
         faultAtTheLastByte();
         withAFaultNothingIsDone();
@@ -257,6 +256,8 @@ public final class TermsOfTextTests {
         fault("again;5", 6);
         fault("again;,", 6);
         // Where an order would fit in at the fault, the text is not read on from there.
+        fault("snow ; q;", 5);
+        fault("press 1; q;", 7);
         fault("snow again; q;", 5);
         fault("press 1 again; q;", 8);
         fault("snow 5 again; q;", 7);
@@ -275,36 +276,6 @@ public final class TermsOfTextTests {
         Checks.is("then it runs", place.runOrders(), 1);
         Checks.is("an empty text", Checks.run(place, ""), 0);
         Checks.is("snow", place.whole(0), 10);
-    }
-
-    /** A twin that is called tells the same as the place that was told the order. */
-    private static void does(String order, Twins.Call call) {
-        SnowSites told = retyped(order);
-        SnowSites called = retyped(order);
-        Checks.is(order, told.runOrders(), 1);
-        call.on(called);
-        Twins.same(order, told, called);
-    }
-
-    private static void eachWordDoesItsCall() {
-        Checks.sentence("The words are: snow n (addSnow(n)), press k n (press(k, n)), stack s k (stack(s, k)), tool v (addTool(v)), "
-            + "carve t s l n (carve(t, s, l, n)), wall s (setWall(s, true)), sun n, cloud n, again (recycle()).");
-        does("snow 9;", p -> p.addSnow(9));
-        does("press 0 2;", p -> p.press(0, 2));
-        does("press 2 1;", p -> p.press(2, 1));
-        does("stack 0 1;", p -> p.stack(0, 1));
-        does("stack 1 0;", p -> p.stack(1, 0));
-        does("stack 6 2;", p -> p.stack(6, 2));
-        does("tool 6;", p -> p.addTool(6));
-        does("carve 0 3 2 9;", p -> p.carve(0, 3, 2, 9));
-        does("carve 1 2 0 21;", p -> p.carve(1, 2, 0, 21));
-        does("carve 1 7 0 92;", p -> p.carve(1, 7, 0, 92));
-        does("wall 0;", p -> p.setWall(0, true));
-        does("wall 3;", p -> p.setWall(3, true));
-        does("wall 7;", p -> p.setWall(7, true));
-        does("sun 1;", p -> p.hour(false));
-        does("cloud 1;", p -> p.hour(true));
-        does("again;", SnowSites::recycle);
     }
 
     private static void outOfRangeIsNoFault() {

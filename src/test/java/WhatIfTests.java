@@ -97,17 +97,7 @@ public final class WhatIfTests {
 
     /** Ice behind walls on all sites: the inner sculptures outlast the 200 hours, and one of them just not. */
     private static void promise21LongLived() {
-        SnowSites place = new SnowSites();
-        for (int i = 0; i < 4; i++) {
-            place.addSnow(1200);
-            place.press(2, 12);
-        }
-        for (int site = 0; site < 8; site++) {
-            place.setWall(site, true);
-            for (int level = 0; level < 6; level++) {
-                place.stack(site, 2);
-            }
-        }
+        SnowSites place = Places.iceBehindWalls();
         Checks.is("the outer one in the west", place.goneIn(0), 128);
         Checks.is("the outer one in the east", place.goneIn(7), 121);
         for (int site = 1; site < 7; site++) {
