@@ -12,6 +12,7 @@ import java.util.regex.Pattern;
 
 /** The public face, and the rules of ../shared/LANGUAGE.md that can be seen from outside or in the text. */
 public final class FaceTests {
+    private static final Path SOURCE = Path.of("src/main/java/SnowSites.java");
     private static final String INDEX = "IndexOutOfBoundsException";
     private static final String ARGUMENT = "IllegalArgumentException";
     private static final String STATE = "IllegalStateException";
@@ -51,6 +52,7 @@ public final class FaceTests {
 
     public static void main(String[] args) throws IOException {
         theMembers();
+        theOrder();
         theNames();
         theText();
         Checks.finish();
@@ -96,15 +98,24 @@ public final class FaceTests {
         Checks.is("its interfaces", SnowSites.class.getInterfaces().length, 0);
     }
 
+    /** "Ahead of the calls [..] the interface says: ----": the class has the same groups, in the same order. */
+    private static void theOrder() throws IOException {
+        List<List<String>> due = Groups.ofTheDocument();
+        int named = 0;
+        for (List<String> group : due) {
+            named += group.size() - 1;
+        }
+        Checks.is("all methods of the face are in a group", named, METHODS.length);
+        List<List<String>> got = Groups.of(SOURCE, "^    // ---- (.*)$", "^    public (?:int|long) (\\w+)\\(");
+        Checks.is("what the class says ahead of its calls", got.toString(), due.toString());
+    }
+
     /** Rule 1: no private method bears the name of a public one; rule 2: the classes inside are static. */
     private static void theNames() {
         for (Method method : SnowSites.class.getDeclaredMethods()) {
-            boolean bearsFaceName = false;
-            for (String due : METHODS) {
-                bearsFaceName |= due.contains(" " + method.getName() + "(");
-            }
             boolean hidden = Modifier.isPrivate(method.getModifiers());
-            Checks.is("name of " + method.getName(), hidden && bearsFaceName ? 1 : 0, 0);
+            Checks.is("name of " + method.getName(), hidden && isOfTheFace(method) ? 1 : 0, 0);
+            Checks.is("parameters of " + method.getName(), method.getParameterCount() <= 7 ? 1 : 0, 1);
         }
         Class<?>[] inside = SnowSites.class.getDeclaredClasses();
         Checks.is("at most twelve classes", inside.length <= 12 ? 1 : 0, 1);
@@ -112,11 +123,23 @@ public final class FaceTests {
             Checks.is("static: " + one.getSimpleName(), Modifier.isStatic(one.getModifiers()) ? 1 : 0, 1);
             Checks.is("not open: " + one.getSimpleName(), Modifier.isPublic(one.getModifiers()) ? 1 : 0, 0);
             Checks.is("fields: " + one.getSimpleName(), one.getDeclaredFields().length <= 20 ? 1 : 0, 1);
+            for (Method method : one.getDeclaredMethods()) {
+                Checks.is("name inside: " + method.getName(), isOfTheFace(method) ? 1 : 0, 0);
+                Checks.is("parameters of " + method.getName(), method.getParameterCount() <= 7 ? 1 : 0, 1);
+            }
         }
     }
 
+    private static boolean isOfTheFace(Method method) {
+        boolean found = false;
+        for (String due : METHODS) {
+            found |= due.contains(" " + method.getName() + "(");
+        }
+        return found;
+    }
+
     private static void theText() throws IOException {
-        for (String line : Files.readAllLines(Path.of("src/main/java/SnowSites.java"))) {
+        for (String line : Files.readAllLines(SOURCE)) {
             for (String pattern : RULED_OUT) {
                 if (Pattern.compile(pattern).matcher(line).find()) {
                     Checks.is("ruled out by LANGUAGE.md: " + line, 1, 0);
