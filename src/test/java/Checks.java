@@ -1,3 +1,6 @@
+import java.util.HashSet;
+import java.util.Set;
+
 /** What the tests share: each wrong answer is printed and counted, and finish() ends with it. */
 final class Checks {
     interface Act {
@@ -6,7 +9,7 @@ final class Checks {
 
     private static int passed = 0;
     private static int failed = 0;
-    private static int sentences = 0;
+    private static final Set<String> SENTENCES = new HashSet<>();
     private static String sentence = "";
 
     private Checks() {
@@ -15,7 +18,7 @@ final class Checks {
     /** The sentence of the document that the answers from here on are due to; a wrong one is printed with it. */
     static void sentence(String words) {
         sentence = words;
-        sentences++;
+        SENTENCES.add(words);
     }
 
     static void is(String what, long got, long want) {
@@ -87,7 +90,7 @@ final class Checks {
     }
 
     static void finish() {
-        String ofSentences = sentences > 0 ? " for " + sentences + " sentences" : "";
+        String ofSentences = SENTENCES.isEmpty() ? "" : " for " + SENTENCES.size() + " sentences";
         System.out.println(passed + " answers were as due" + ofSentences + ", " + failed + " were not");
         if (failed > 0) {
             System.exit(1);

@@ -30,6 +30,7 @@ public final class QuestionBoundsTests {
         promise22TheLowest();
         promise22OnAllSites();
         promise23LeastAndMost();
+        promise23EachSpeedAndAllUnits();
         promise25TheLengthThatItHad();
         noneOnlyWithoutAnException();
         Checks.finish();
@@ -385,6 +386,22 @@ public final class QuestionBoundsTests {
         }
         place.carve(0, 2, 0, 60);
         Checks.is("also with no minute left", place.minutesFor(0, 9999), 9999);
+    }
+
+    private static void promise23EachSpeedAndAllUnits() {
+        Checks.sentence("All numbers are whole; a / b is rounded up where this is told");
+        for (int speed = 1; speed <= 20; speed++) {
+            SnowSites place = null;
+            for (int units = 0; units <= 9999; units++) {
+                if (units % 500 == 0) {
+                    place = new SnowSites();
+                    place.addTool(speed);
+                }
+                int minutes = place.minutesFor(0, units);
+                boolean just = minutes * speed >= units && (minutes - 1) * speed < units;
+                Checks.is(units + " units at speed " + speed + ": just " + minutes, just ? 1 : 0, 1);
+            }
+        }
     }
 
     private static void promise25TheLengthThatItHad() {
